@@ -8,6 +8,7 @@ public final class TelegramTest {
         strike(check);
         turnJoined(check);
         reword(check);
+        rewordOfAFullTelegram(check);
         rewordOfAWordingThatIsNotHonestAnyMore(check);
         send(check);
         check.end();
@@ -93,6 +94,11 @@ public final class TelegramTest {
         check.is("10: turnJoined(0)", book.turnJoined(0), true);
         check.is("10: turnJoined(2), beside a pair", book.turnJoined(2), true);
         check.isText("10: two pairs", Check.telegramOf(book), " 0+ 1 0+ 1");
+        book.turnJoin(1, 0);
+        check.badState("10: both are joined already", book, () -> book.turnJoined(1));
+        check.is("10: turnJoined(2) again", book.turnJoined(2), false);
+        check.badState("10: the word at place 1 is joined already", book, () -> book.turnJoined(1));
+        book.turnJoined(2);
         check.is("10: turnJoined(0) again", book.turnJoined(0), false);
         check.isText("10: one pair", Check.telegramOf(book), " 0 1 0+ 1");
         TelegraphPrices full = Check.bookOf(3);
@@ -131,6 +137,15 @@ public final class TelegramTest {
         check.isText("11: the next stand-in", Check.telegramOf(far), " 2");
     }
 
+    private static void rewordOfAFullTelegram(Check check) {
+        TelegraphPrices book = Check.bookOf(12, 2);
+        book.turnStandIn(0, 1);
+        book.turnJoin(1, 1);
+        Check.write(book, 0, 0, 0, 0, 0, 0, 0, 0, 0, 0, 0, 0, 0, 0, 0, 0);
+        check.is("11: reword() of 16 words", book.reword(), 24);
+        check.isText("11: 16 words", Check.telegramOf(book), " 1+ 1 1+ 1 1+ 1 1+ 1 1+ 1 1+ 1 1+ 1 1+ 1");
+    }
+
     private static void rewordOfAWordingThatIsNotHonestAnyMore(Check check) {
         TelegraphPrices book = Check.bookOf(2, 3);
         book.setLeastCount(0);
@@ -167,6 +182,9 @@ public final class TelegramTest {
             check.is("12: sent()", book.sent(), zone + 1);
         }
         check.is("12: earned()", book.earned(), 244);
+        Check.write(book, 0, 0);
+        book.turnJoined(0);
+        book.send(0);
         Check.write(book, 0, 0);
         check.isText("12: nothing is joined in the next one", Check.telegramOf(book), " 0 0");
         check.outside("12: send(4)", book, () -> book.send(4));

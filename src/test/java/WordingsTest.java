@@ -5,6 +5,7 @@ public final class WordingsTest {
     public static void main(String[] args) {
         Check check = new Check();
         cheapestCount(check);
+        eachCallByItself(check);
         noSuchPlace(check);
         notJoinedGoesAhead(check);
         smallerWordGoesAhead(check);
@@ -56,6 +57,32 @@ public final class WordingsTest {
         cheapest(check, "joined already", joined, 1, " 0+ 1");
         joined.turnJoin(0, 1);
         cheapest(check, "joined, though it may not be any more", joined, 2, " 0 1");
+    }
+
+    /** Each of these is the first call behind a change, so that it can't lean on what another one has looked up. */
+    private static void eachCallByItself(Check check) {
+        TelegraphPrices book = bookWithoutLeastCount(12, 3);
+        Check.write(book, 0, 0);
+        check.is("31: cheapestWordAt(0)", book.cheapestWordAt(0), 0);
+        book.turnStandIn(0, 1);
+        check.is("31: cheapestWordAt(0) behind turnStandIn", book.cheapestWordAt(0), 1);
+        book.turnJoin(1, 1);
+        check.is("32: isJoinedInCheapest(0) behind turnJoin", book.isJoinedInCheapest(0), true);
+        book.setLimit(5);
+        check.is("32: isJoinedInCheapest(0) behind setLimit", book.isJoinedInCheapest(0), false);
+        check.is("30: cheapestCount()", book.cheapestCount(), 2);
+        Check.write(book, 0, 0);
+        check.is("31: cheapestWordAt(3) behind write", book.cheapestWordAt(3), 1);
+        book.setLimit(6);
+        check.is("30: cheapestCount() behind setLimit", book.cheapestCount(), 2);
+        book.strike(0);
+        check.is("32: isJoinedInCheapest(0) behind strike", book.isJoinedInCheapest(0), false);
+        check.is("32: isJoinedInCheapest(1) behind strike", book.isJoinedInCheapest(1), true);
+        book.turnJoin(1, 1);
+        check.is("35: bestJoin() behind turnJoin", book.bestJoin(), 101);
+        book.turnJoin(1, 1);
+        check.is("37: digest() behind turnJoin", book.digest(), digestOf(2, 6, 0, 2, 3, 6, 12, 2, 0, 0,
+            12, 2, 2, 3, 1, 1, 0, 0, 1, 0, 0, 0, 1, 1, 0, 0, 1, 0));
     }
 
     private static void noSuchPlace(Check check) {
@@ -116,6 +143,12 @@ public final class WordingsTest {
         cheapest(check, "the smaller first word, though its next one is larger", book, 1, " 0+ 2");
         book.setLimit(7);
         cheapest(check, "a cheaper pair ahead of a smaller one", book, 1, " 3+ 0");
+        TelegraphPrices next = bookWithoutLeastCount(3, 9, 2);
+        next.turnStandIn(1, 2);
+        next.turnJoin(0, 1);
+        next.turnJoin(0, 2);
+        Check.write(next, 0, 1);
+        cheapest(check, "a cheaper next one ahead of a smaller one", next, 1, " 0+ 2");
     }
 
     private static void joinsOfStandIns(Check check) {
@@ -259,6 +292,13 @@ public final class WordingsTest {
         TelegraphPrices last = Check.bookOf(30, 30, 30, 30, 30, 30, 30, 30, 30, 30, 30, 2);
         Check.write(last, 11, 11, 0, 0);
         best(check, "a word with itself", last, 1111);
+        TelegraphPrices itself = bookWithoutLeastCount(2, 3);
+        itself.turnJoin(0, 0);
+        itself.turnJoin(1, 1);
+        Check.write(itself, 0, 1, 0, 1, 0, 1, 0, 1, 0, 1, 0, 1, 0, 1, 0, 1);
+        best(check, "of a full telegram, beside joins of each word with itself", itself, 1);
+        itself.turnJoin(0, 1);
+        best(check, "that would save nothing more", itself, -1);
         TelegraphPrices first = bookWithoutLeastCount(2);
         Check.write(first, 0, 0, 0);
         best(check, "the word 0 with itself", first, 0);

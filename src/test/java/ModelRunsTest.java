@@ -1,3 +1,7 @@
+import java.lang.reflect.InvocationTargetException;
+import java.lang.reflect.Method;
+import java.util.Arrays;
+
 /** Promises 1 to 37: long runs of calls, each answer beside that of the slow model. */
 public final class ModelRunsTest {
     private static final int RUNS = 400;
@@ -97,103 +101,24 @@ public final class ModelRunsTest {
         }
     }
 
-    private static String answerOf(TelegraphPrices x, int call, int a, int b) {
+    /** The answer, or the exception's name; the program and the model bear the same names, but no common type. */
+    private static String answerOf(Object x, int call, int a, int b) {
         try {
-            return "" + answer(x, call, a, b);
-        } catch (RuntimeException thrown) {
-            return thrown.getClass().getName();
+            for (Method method : x.getClass().getDeclaredMethods()) {
+                if (method.getName().equals(NAMES[call]) && takesNumbers(method)) {
+                    Object[] arguments = Arrays.copyOf(new Object[] {a, b}, method.getParameterCount());
+                    return String.valueOf(method.invoke(x, arguments));
+                }
+            }
+            return "no call " + NAMES[call] + " of " + x.getClass();
+        } catch (InvocationTargetException thrown) {
+            return thrown.getCause().getClass().getName();
+        } catch (IllegalAccessException closed) {
+            return "closed: " + NAMES[call] + " of " + x.getClass();
         }
     }
 
-    private static String answerOf(SlowModel x, int call, int a, int b) {
-        try {
-            return "" + answer(x, call, a, b);
-        } catch (RuntimeException thrown) {
-            return thrown.getClass().getName();
-        }
-    }
-
-    private static Object answer(TelegraphPrices x, int call, int a, int b) {
-        switch (NAMES[call]) {
-            case "addWord": return x.addWord(a);
-            case "turnStandIn": return x.turnStandIn(a, b);
-            case "turnJoin": return x.turnJoin(a, b);
-            case "setLimit": return x.setLimit(a);
-            case "setLeastCount": return x.setLeastCount(a);
-            case "setCoins": return x.setCoins(a);
-            case "write": return x.write(a);
-            case "strike": return x.strike(a);
-            case "turnJoined": return x.turnJoined(a);
-            case "reword": return x.reword();
-            case "send": return x.send(a);
-            case "words": return x.words();
-            case "lettersOf": return x.lettersOf(a);
-            case "countOf": return x.countOf(a);
-            case "mayStandFor": return x.mayStandFor(a, b);
-            case "mayJoin": return x.mayJoin(a, b);
-            case "standInsOf": return x.standInsOf(a);
-            case "limit": return x.limit();
-            case "leastCount": return x.leastCount();
-            case "coins": return x.coins();
-            case "length": return x.length();
-            case "wordAt": return x.wordAt(a);
-            case "isJoined": return x.isJoined(a);
-            case "count": return x.count();
-            case "price": return x.price();
-            case "priceTo": return x.priceTo(a);
-            case "sent": return x.sent();
-            case "earned": return x.earned();
-            case "cheapestCount": return x.cheapestCount();
-            case "cheapestWordAt": return x.cheapestWordAt(a);
-            case "isJoinedInCheapest": return x.isJoinedInCheapest(a);
-            case "saves": return x.saves();
-            case "wordings": return x.wordings();
-            case "bestJoin": return x.bestJoin();
-            case "meanCost": return x.meanCost();
-            case "digest": return x.digest();
-            default: throw new IllegalStateException("no such call");
-        }
-    }
-
-    private static Object answer(SlowModel x, int call, int a, int b) {
-        switch (NAMES[call]) {
-            case "addWord": return x.addWord(a);
-            case "turnStandIn": return x.turnStandIn(a, b);
-            case "turnJoin": return x.turnJoin(a, b);
-            case "setLimit": return x.setLimit(a);
-            case "setLeastCount": return x.setLeastCount(a);
-            case "setCoins": return x.setCoins(a);
-            case "write": return x.write(a);
-            case "strike": return x.strike(a);
-            case "turnJoined": return x.turnJoined(a);
-            case "reword": return x.reword();
-            case "send": return x.send(a);
-            case "words": return x.words();
-            case "lettersOf": return x.lettersOf(a);
-            case "countOf": return x.countOf(a);
-            case "mayStandFor": return x.mayStandFor(a, b);
-            case "mayJoin": return x.mayJoin(a, b);
-            case "standInsOf": return x.standInsOf(a);
-            case "limit": return x.limit();
-            case "leastCount": return x.leastCount();
-            case "coins": return x.coins();
-            case "length": return x.length();
-            case "wordAt": return x.wordAt(a);
-            case "isJoined": return x.isJoined(a);
-            case "count": return x.count();
-            case "price": return x.price();
-            case "priceTo": return x.priceTo(a);
-            case "sent": return x.sent();
-            case "earned": return x.earned();
-            case "cheapestCount": return x.cheapestCount();
-            case "cheapestWordAt": return x.cheapestWordAt(a);
-            case "isJoinedInCheapest": return x.isJoinedInCheapest(a);
-            case "saves": return x.saves();
-            case "wordings": return x.wordings();
-            case "bestJoin": return x.bestJoin();
-            case "meanCost": return x.meanCost();
-            case "digest": return x.digest();
-            default: throw new IllegalStateException("no such call");
-        }
+    private static boolean takesNumbers(Method method) {
+        return Arrays.stream(method.getParameterTypes()).allMatch(type -> type == int.class);
     }
 }

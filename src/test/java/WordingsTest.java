@@ -149,6 +149,13 @@ public final class WordingsTest {
         next.turnJoin(0, 2);
         Check.write(next, 0, 1);
         cheapest(check, "a cheaper next one ahead of a smaller one", next, 1, " 0+ 2");
+        TelegraphPrices alike = bookWithoutLeastCount(3, 8, 8);
+        alike.setLimit(7);
+        alike.turnStandIn(2, 1);
+        alike.turnJoin(0, 1);
+        alike.turnJoin(0, 2);
+        Check.write(alike, 0, 2);
+        cheapest(check, "the smaller of two next ones that count alike", alike, 2, " 0+ 1");
     }
 
     private static void joinsOfStandIns(Check check) {

@@ -6,6 +6,22 @@ final class Check {
 
     private int right = 0;
     private int wrong = 0;
+    private String sentence = "";
+
+    /** One sentence of the document and its own test, which must check something and end by itself. */
+    void sentence(String text, Call test) {
+        int before = right + wrong;
+        sentence = text + " | ";
+        try {
+            test.run();
+        } catch (RuntimeException thrown) {
+            note(false, "the test threw " + thrown);
+        }
+        if (right + wrong == before) {
+            note(false, "nothing is checked");
+        }
+        sentence = "";
+    }
 
     void is(String what, long got, long due) {
         note(got == due, what + " answered " + got + ", due is " + due);
@@ -25,14 +41,14 @@ final class Check {
 
     /** The call throws just this exception, made by the program's own throw, and changes nothing. */
     void refuses(String what, TelegraphPrices book, Class<? extends RuntimeException> due, Call call) {
-        String before = stateOf(book);
+        String before = everythingOf(book);
         try {
             call.run();
             note(false, what + " threw nothing, due is " + due.getName());
         } catch (RuntimeException thrown) {
             note(thrown.getClass() == due, what + " threw " + thrown + ", due is " + due.getName());
         }
-        isText(what + ", the state behind it", stateOf(book), before);
+        isText(what + ", all answers behind it", everythingOf(book), before);
     }
 
     void outside(String what, TelegraphPrices book, Call call) {
@@ -59,7 +75,7 @@ final class Check {
             right++;
         } else {
             wrong++;
-            System.out.println(otherwise);
+            System.out.println(sentence + otherwise);
         }
     }
 
@@ -77,6 +93,16 @@ final class Check {
             }
         }
         return text.append(" telegram").append(telegramOf(book)).toString();
+    }
+
+    /** The state, and what is reckoned from it. */
+    static String everythingOf(TelegraphPrices book) {
+        StringBuilder text = new StringBuilder(stateOf(book));
+        text.append(" count ").append(book.count()).append(" price ").append(book.price());
+        text.append(" cheapest ").append(book.cheapestCount()).append(cheapestOf(book));
+        text.append(" saves ").append(book.saves()).append(" wordings ").append(book.wordings());
+        text.append(" best ").append(book.bestJoin()).append(" mean ").append(book.meanCost());
+        return text.append(" digest ").append(book.digest()).toString();
     }
 
     /** The words of the telegram; + stands behind one that is joined with the next one. */
@@ -97,6 +123,11 @@ final class Check {
         return text.toString();
     }
 
+    /** A book with 12 words, of 1 to 12 letters. */
+    static TelegraphPrices fullBook() {
+        return bookOf(1, 2, 3, 4, 5, 6, 7, 8, 9, 10, 11, 12);
+    }
+
     /** A book with words of so many letters. */
     static TelegraphPrices bookOf(int... letters) {
         TelegraphPrices book = new TelegraphPrices();
@@ -104,6 +135,12 @@ final class Check {
             book.addWord(number);
         }
         return book;
+    }
+
+    static void writeTimes(TelegraphPrices book, int word, int times) {
+        for (int time = 0; time < times; time++) {
+            book.write(word);
+        }
     }
 
     static void write(TelegraphPrices book, int... words) {

@@ -58,6 +58,22 @@ public final class WordingsBoundaryTest {
             book.turnJoin(1, 1);
             check.is("stand-ins and joins", book.cheapestCount(), 8);
         });
+        check.sentence("30: of a telegram that has become shorter, and longer again", () -> {
+            TelegraphPrices book = bookWithoutLeastCount(30);
+            for (int number = 1; number <= 16; number++) {
+                book.write(0);
+                check.is("cheapestCount(), longer", book.cheapestCount(), 3 * number);
+            }
+            for (int number = 15; number >= 0; number--) {
+                book.strike(number / 2);
+                check.is("cheapestCount(), shorter", book.cheapestCount(), 3 * number);
+            }
+            Check.writeTimes(book, 0, 16);
+            check.is("cheapestCount(), full again", book.cheapestCount(), 48);
+            book.send(0);
+            book.write(0);
+            check.is("cheapestCount(), of one behind a full one", book.cheapestCount(), 3);
+        });
         check.sentence("Terms: the least count left aside", () -> {
             TelegraphPrices book = Check.bookOf(11, 3);
             book.turnStandIn(0, 1);
@@ -186,6 +202,20 @@ public final class WordingsBoundaryTest {
         return book;
     }
 
+    /** The words 4 and 5 are there; 0 and 1, with so many letters, may stand for them, or 2 and 3; these pairs may be joined. */
+    private static TelegraphPrices bookOfTwoPairs(int... letters) {
+        TelegraphPrices book = bookWithoutLeastCount(letters);
+        book.addWord(30);
+        book.addWord(30);
+        for (int word = 0; word < 4; word++) {
+            book.turnStandIn(4 + word % 2, word);
+        }
+        book.turnJoin(0, 1);
+        book.turnJoin(2, 3);
+        Check.write(book, 4, 5);
+        return book;
+    }
+
     private static void cheapestOrderOfPairs(Check check) {
         check.sentence("Terms: the smaller number of the word there, also if it is joined", () -> {
             check.isText("0+ 3 ahead of 1+ 0", Check.cheapestOf(bookOfPairs(10, 3)), " 0+ 3");
@@ -210,6 +240,16 @@ public final class WordingsBoundaryTest {
             check.isText("8 letters are, at 9", Check.cheapestOf(book), " 2+ 3");
             book.setLimit(7);
             check.isText("and are not, at 7", Check.cheapestOf(book), " 2 3");
+        });
+        check.sentence("Terms: of two pairs the one that counts less, with the letters of both words", () -> {
+            check.isText("fewer letters of the second", Check.cheapestOf(bookOfTwoPairs(3, 20, 3, 1)), " 2+ 3");
+            check.isText("fewer letters of the first", Check.cheapestOf(bookOfTwoPairs(20, 3, 1, 3)), " 2+ 3");
+            check.isText("fewer letters of both, ahead", Check.cheapestOf(bookOfTwoPairs(2, 3, 5, 14)), " 0+ 1");
+            check.isText("fewer letters of one, more of the other", Check.cheapestOf(bookOfTwoPairs(2, 14, 5, 3)), " 2+ 3");
+            check.isText("the other way round", Check.cheapestOf(bookOfTwoPairs(14, 2, 3, 5)), " 2+ 3");
+            check.isText("of both the same", Check.cheapestOf(bookOfTwoPairs(2, 7, 5, 3)), " 0+ 1");
+            check.isText("of both the same, a long first word", Check.cheapestOf(bookOfTwoPairs(21, 9, 21, 9)), " 0+ 1");
+            check.isText("of both the same, a long second word", Check.cheapestOf(bookOfTwoPairs(9, 21, 9, 21)), " 0+ 1");
         });
     }
 
@@ -387,6 +427,19 @@ public final class WordingsBoundaryTest {
             book.turnJoin(0, 1);
             best(check, "it may be no more", book, 1);
         });
+        check.sentence("35: a pair is not passed over, as each of its words may be joined with itself, or the other way", () -> {
+            TelegraphPrices book = bookWithoutLeastCount(1, 1);
+            book.turnJoin(0, 0);
+            book.turnJoin(1, 1);
+            book.turnJoin(1, 0);
+            Check.write(book, 0, 1);
+            best(check, "0 and 1", book, 1);
+            book.turnJoin(1, 0);
+            book.turnJoin(0, 1);
+            book.strike(0);
+            book.write(0);
+            best(check, "1 and 0", book, 100);
+        });
         check.sentence("35: had best may: the least of all, though its number is larger", () -> {
             TelegraphPrices book = bookWithoutLeastCount(1, 1, 1);
             Check.write(book, 0, 0, 1, 2, 1, 2);
@@ -547,6 +600,9 @@ public final class WordingsBoundaryTest {
             }
             book.turnJoined(14);
             check.is("joined at the end", book.digest(), dueDigest(book));
+            book.turnStandIn(11, 0);
+            check.is("a larger word in the cheapest one", book.digest(), dueDigest(book));
+            check.is("cheapestWordAt(15)", book.cheapestWordAt(15), 1);
             book.reword();
             check.is("reworded", book.digest(), dueDigest(book));
             book.send(3);

@@ -57,6 +57,8 @@ public final class RefusalTest {
         RefusalTest::pairsThatMayBeNoMore,
         RefusalTest::fullTelegram,
         RefusalTest::fullTelegramOfPairs,
+        () -> onePairAt(0),
+        () -> onePairAt(14),
         RefusalTest::sent);
 
     public static void main(String[] args) {
@@ -165,6 +167,14 @@ public final class RefusalTest {
         for (int place = 0; place < 16; place += 2) {
             book.turnJoined(place);
         }
+        return book;
+    }
+
+    private static TelegraphPrices onePairAt(int place) {
+        TelegraphPrices book = Check.bookOf(3);
+        book.turnJoin(0, 0);
+        Check.writeTimes(book, 0, 16);
+        book.turnJoined(place);
         return book;
     }
 

@@ -1,12 +1,22 @@
+import java.io.IOException;
 import java.lang.reflect.Constructor;
 import java.lang.reflect.Field;
 import java.lang.reflect.Method;
 import java.lang.reflect.Modifier;
+import java.nio.file.Files;
+import java.nio.file.Path;
 import java.util.Set;
 import java.util.TreeSet;
+import java.util.regex.Matcher;
+import java.util.regex.Pattern;
 
 /** The public face, as the document has it, and nothing beside it. */
 public final class FaceTest {
+    private static final Path DOCUMENT = Path.of("../shared/DOC.md");
+    private static final Path SOURCE = Path.of("src/main/java/TelegraphPrices.java");
+    private static final String DOCUMENT_HEAD = "^    (public [^;\n]*);";
+    private static final String SOURCE_HEAD = "^    (public [^{\n]*?) \\{";
+
     private static final String[] FACE = {
         "int addWord(int) IllegalArgumentException IllegalStateException",
         "boolean turnStandIn(int int) IndexOutOfBoundsException IllegalArgumentException",
@@ -45,14 +55,49 @@ public final class FaceTest {
         "double meanCost()",
         "long digest()"};
 
-    public static void main(String[] args) {
+    public static void main(String[] args) throws IOException {
         Check check = new Check();
         int kind = TelegraphPrices.class.getModifiers();
         check.is("the class is public and final", Modifier.isPublic(kind) && Modifier.isFinal(kind), true);
         check.isText("the calls", callsOf().toString(), new TreeSet<>(Set.of(FACE)).toString());
         check.isText("the constructors", constructorsOf(), " public TelegraphPrices()");
         noOtherMemberIsSeen(check);
+        String document = Files.readString(DOCUMENT);
+        String source = Files.readString(SOURCE);
+        check.isText("the face in the source", found(SOURCE_HEAD, source), found(DOCUMENT_HEAD, document));
+        check.isText("the sections in the source", sectionsOf(source), sectionsDueBy(document));
         check.end();
+    }
+
+    /** What the pattern's first group finds in the text, a line each. */
+    private static String found(String pattern, String text) {
+        StringBuilder lines = new StringBuilder();
+        Matcher matcher = Pattern.compile(pattern, Pattern.MULTILINE).matcher(text);
+        while (matcher.find()) {
+            lines.append('\n').append(matcher.group(1));
+        }
+        return lines.toString();
+    }
+
+    /** The sections of the source that have calls of the face, with those calls. */
+    private static String sectionsOf(String source) {
+        StringBuilder sections = new StringBuilder();
+        for (String section : source.split("\n    // (?=---- )")) {
+            String calls = found("^    public \\w+ (\\w+)\\(", section);
+            if (section.startsWith("---- ") && !calls.isEmpty()) {
+                sections.append(section, 0, section.indexOf('\n')).append(calls).append('\n');
+            }
+        }
+        return sections.toString();
+    }
+
+    private static String sectionsDueBy(String document) {
+        StringBuilder sections = new StringBuilder();
+        Matcher row = Pattern.compile("Ahead of the calls (.*) the interface says: (---- .*)\\.").matcher(document);
+        while (row.find()) {
+            sections.append(row.group(2)).append(found("`(\\w+)`", row.group(1))).append('\n');
+        }
+        return sections.toString();
     }
 
     private static String namesOf(Class<?>[] types) {
